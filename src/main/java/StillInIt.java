@@ -146,10 +146,9 @@ public final class StillInIt {
     public int run(int team, int game) {
         if (!now.hasTeam(team) || !now.hasGame(game)) return BAD;
         if (!now.isLeft(game)) return STATE;
-        if (!canWin(now, team)) return NONE;
-        if (now.foe(game, team) != NONE) return now.ones[game] == team ? ONE_WON : OTHER_WON;
-        race.open(now, team, now.leftOf(team));
-        return race.canEnd() ? race.pickOf(game) : NONE;
+        if (!findRun(now, team)) return NONE;
+        if (now.foe(game, team) == NONE) return race.pickOf(game);
+        return now.ones[game] == team ? ONE_WON : OTHER_WON;
     }
 
     public int pattern(int team) {
@@ -418,10 +417,18 @@ public final class StillInIt {
     }
 
     private boolean canWin(Group g, int team) {
-        shutter.find(g, team);
-        if (shutter.above > 0) return false;
         // Points that can be split as one likes flow wherever no set of teams stops them.
-        if (g.kind != THREES) return true;
+        return g.kind == THREES ? findRun(g, team) : !isShutOut(g, team);
+    }
+
+    private boolean isShutOut(Group g, int team) {
+        shutter.find(g, team);
+        return shutter.above > 0;
+    }
+
+    /** Whether there is a run for a team; the race has picked the first one then. */
+    private boolean findRun(Group g, int team) {
+        if (isShutOut(g, team)) return false;
         race.open(g, team, g.leftOf(team));
         return race.canEnd();
     }
