@@ -146,26 +146,22 @@ public final class StillInIt {
     public int run(int team, int game) {
         if (!now.hasTeam(team) || !now.hasGame(game)) return BAD;
         if (!now.isLeft(game)) return STATE;
-        if (!findRun(now, team)) return NONE;
+        // A set that shuts out is found sooner than a search ends that finds nothing.
+        if (shutter.find(now, team) > 0) return NONE;
+        race.open(now, team, now.leftOf(team));
+        if (!race.canEnd()) return NONE;
         if (now.foe(game, team) == NONE) return race.pickOf(game);
         return now.ones[game] == team ? ONE_WON : OTHER_WON;
     }
 
     public int pattern(int team) {
         if (!now.hasTeam(team)) return BAD;
-        if (!canWin(now, team)) return NONE;
-        int own = now.leftOf(team);
-        int free = now.left() & ~own;
-        for (int size = 0; size <= GAMES; size++) {
-            int found = leastPattern(team, own, free, size);
-            if (found != NONE) return found;
-        }
-        return NONE;
+        return fewestFor(team, now.left() & ~now.leftOf(team), true);
     }
 
     public int needs(int team, int what) {
         if (!now.hasTeam(team) || !isPart(what)) return BAD;
-        int wins = findNeeds(team);
+        int wins = fewestFor(team, now.leftOf(team), false);
         return what == 0 && wins != NONE ? Integer.bitCount(wins) : wins;
     }
 
@@ -203,7 +199,7 @@ public final class StillInIt {
     public int tables() {
         if (Integer.bitCount(now.left()) > TABLES_LEFT) return DEAR;
         walk.open(now);
-        return walk.tablesFrom(0);
+        return walk.from(0, now, null);
     }
 
     // ---- by seeds
@@ -235,7 +231,7 @@ public final class StillInIt {
         if (what == 1) return firstOf(told.items, told.size);
         if (Integer.bitCount(now.left()) > TOLD_LEFT) return DEAR;
         walk.open(now);
-        return walk.runsTold(0, told);
+        return walk.from(0, now, told);
     }
 
     public int film(int sheet, int seed) {
@@ -417,18 +413,9 @@ public final class StillInIt {
     }
 
     private boolean canWin(Group g, int team) {
+        if (shutter.find(g, team) > 0) return false;
         // Points that can be split as one likes flow wherever no set of teams stops them.
-        return g.kind == THREES ? findRun(g, team) : !isShutOut(g, team);
-    }
-
-    private boolean isShutOut(Group g, int team) {
-        shutter.find(g, team);
-        return shutter.above > 0;
-    }
-
-    /** Whether there is a run for a team; the race has picked the first one then. */
-    private boolean findRun(Group g, int team) {
-        if (isShutOut(g, team)) return false;
+        if (g.kind != THREES) return true;
         race.open(g, team, g.leftOf(team));
         return race.canEnd();
     }
@@ -450,47 +437,26 @@ public final class StillInIt {
         return true;
     }
 
-    private int leastPattern(int team, int own, int free, int size) {
-        int bits = 0;
-        for (int i = 0; i < 1 << GAMES; i++) {
-            if (Integer.bitCount(bits) == size) {
-                race.open(now, team, own);
-                race.drawOnly(bits);
-                if (race.canEnd()) return bits;
-            }
-            bits = nextWithin(bits, free);
-            if (bits == 0) return NONE;
-        }
-        return NONE;
-    }
-
-    private int findNeeds(int team) {
-        // Who is out with all won is out with fewer, too.
+    /** Of games within these the fewest, of like ones the least, by which a team wins: they are drawn, or it wins them. */
+    private int fewestFor(int team, int within, boolean drawn) {
+        // Who is out with all its games won is out with fewer, too.
         if (!canWin(now, team)) return NONE;
-        int own = now.leftOf(team);
         for (int size = 0; size <= GAMES; size++) {
-            int found = leastNeeds(team, own, size);
-            if (found != NONE) return found;
-        }
-        return NONE;
-    }
-
-    private int leastNeeds(int team, int own, int size) {
-        int bits = 0;
-        for (int i = 0; i < 1 << GAMES; i++) {
-            if (Integer.bitCount(bits) == size) {
-                race.open(now, team, bits);
-                if (race.canEnd()) return bits;
+            int bits = 0;
+            for (int i = 0; i < 1 << GAMES; i++) {
+                if (Integer.bitCount(bits) == size && suffices(team, bits, drawn)) return bits;
+                // The next bits within these, by size as a number; 0 behind the last ones.
+                bits = (bits - within) & within;
+                if (bits == 0) break;
             }
-            bits = nextWithin(bits, own);
-            if (bits == 0) return NONE;
         }
         return NONE;
     }
 
-    /** The bits within others that come next by size as a number; 0 behind the last ones. */
-    private static int nextWithin(int bits, int within) {
-        return (bits - within) & within;
+    private boolean suffices(int team, int bits, boolean drawn) {
+        race.open(now, team, drawn ? now.leftOf(team) : bits);
+        if (drawn) race.drawOnly(bits);
+        return race.canEnd();
     }
 
     private void drawInto(int seed) {
@@ -764,10 +730,10 @@ public final class StillInIt {
         /** What a GAME's RESULT brings comes to a row of POINTS so many times (-1: is taken back). */
         void award(int[] row, int k, int result, int times) {
             if (result == DRAW) {
-                row[ones[k]] += drawBrings() * times;
-                row[others[k]] += drawBrings() * times;
+                row[ones[k]] += DRAWN[kind] * times;
+                row[others[k]] += DRAWN[kind] * times;
             } else {
-                row[result == ONE_WON ? ones[k] : others[k]] += winBrings() * times;
+                row[result == ONE_WON ? ones[k] : others[k]] += WON[kind] * times;
             }
         }
     }
@@ -780,7 +746,8 @@ public final class StillInIt {
         int teams;
         int above;
 
-        void find(Group g, int t) {
+        /** Answers ABOVE of SET. */
+        int find(Group g, int t) {
             open(g, t);
             teams = 0;
             above = 0;
@@ -793,6 +760,7 @@ public final class StillInIt {
                     above = here;
                 }
             }
+            return above;
         }
 
         private void open(Group g, int t) {
@@ -931,12 +899,10 @@ public final class StillInIt {
         final int[] row = new int[TEAMS];
         final int[] left = new int[GAMES];
         final long[] seen = new long[TABLES_MOST];
-        Group group;
         int size;
         int known;
 
         void open(Group g) {
-            group = g;
             g.pointsInto(row);
             known = 0;
             size = 0;
@@ -947,15 +913,14 @@ public final class StillInIt {
             }
         }
 
-        /** How many rows of POINTS come that have not been seen. */
-        private int tablesFrom(int i) {
-            if (group == null) return 0;
-            if (i >= size) return isNew() ? 1 : 0;
+        /** By how many runs POINTS are as told; nothing told: how many rows of them come that have not been seen. */
+        private int from(int i, Group g, Sheet told) {
+            if (i >= size) return (told == null ? isNew() : isAsTold(told)) ? 1 : 0;
             int sum = 0;
-            for (int result = group.firstResult(); result <= OTHER_WON; result++) {
-                group.award(row, left[i], result, 1);
-                sum += tablesFrom(i + 1);
-                group.award(row, left[i], result, -1);
+            for (int result = g.firstResult(); result <= OTHER_WON; result++) {
+                g.award(row, left[i], result, 1);
+                sum += from(i + 1, g, told);
+                g.award(row, left[i], result, -1);
             }
             return sum;
         }
@@ -971,25 +936,6 @@ public final class StillInIt {
             seen[known] = code;
             known++;
             return true;
-        }
-
-        private int runsTold(int i, Sheet told) {
-            if (group == null || isBeyond(told)) return 0;
-            if (i >= size) return isAsTold(told) ? 1 : 0;
-            int sum = 0;
-            for (int result = group.firstResult(); result <= OTHER_WON; result++) {
-                group.award(row, left[i], result, 1);
-                sum += runsTold(i + 1, told);
-                group.award(row, left[i], result, -1);
-            }
-            return sum;
-        }
-
-        private boolean isBeyond(Sheet told) {
-            for (int u = 0; u < told.size && u < TEAMS; u++) {
-                if (row[u] > told.items[u]) return true;
-            }
-            return false;
         }
 
         private boolean isAsTold(Sheet told) {

@@ -110,9 +110,11 @@ public final class PromisesTest {
             "game ab xx 3", "game xx ab 3", "game ab cd", "game ab cd 0", "game ab cd 00", "game ab cd 31",
             "game ab cd 001", "game ab cd 3 3", "game ab cd x", "won ab", "won ab ab", "won xx ab", "won ab xx",
             "won ab cd ef", "drew", "drew ab 3", "drew ab cd 3", "5", "!", "team \r", "start ab -1", "start AB 4",
-            "start abcdefgh 4", "start start 4", "game ab game 3", "abteam"};
+            "start abcdefgh 4", "start start 4", "game ab game 3", "abteam",
+            "beam e", "smart ab 4", "same ab cd 3", "son ab cd", "crew ab cd", "teem e", "tea e", "gamer ab cd 3"};
         int[] places = {0, 3, 1, 0, 0, 4, 5, 7, 5, 5, 5, 5, 5, 5, 5, 5, 7, 7, 6, 5, 4, 5, 8, 9, 6, 9, 9, 9, 6, 11, 11, 10,
-            7, 8, 8, 5, 10, 11, 11, 11, 11, 13, 11, 6, 7, 4, 7, 10, 4, 8, 11, 0, 0, 5, 9, 6, 6, 6, 8, 0};
+            7, 8, 8, 5, 10, 11, 11, 11, 11, 13, 11, 6, 7, 4, 7, 10, 4, 8, 11, 0, 0, 5, 9, 6, 6, 6, 8, 0,
+            0, 0, 0, 0, 0, 0, 0, 0};
         for (int i = 0; i < texts.length; i++) {
             due("fault of '" + texts[i] + "'", text(x, texts[i]), -100 - places[i]);
             due("empty behind '" + texts[i] + "'", x.count(3), 0);
@@ -158,6 +160,9 @@ public final class PromisesTest {
         due("empty by STATE", x.count(3), 0);
         due("no such game", text(x, "won a teams"), -3);
         due("a fault is ahead of STATE", text(x, "won a teams x"), -112);
+        StillInIt w = new StillInIt();
+        String[] near = {"beam", "ttart", "fame", "son", "crew", "wo"};
+        for (int i = 0; i < 6; i++) due("near a keyword", text(w, "team " + near[i]), i);
         StillInIt y = group("team a; team b; team c; team d; team e");
         due("the sixth", text(y, "team f"), 5);
         due("full", text(y, "team g"), -4);
@@ -303,6 +308,11 @@ public final class PromisesTest {
         due("none", x.between(-1, 0), -2);
         due("none", x.between(0, -1), -2);
         due("no game", group("team a; team b").between(0, 1), 0);
+        x.image();
+        for (int i = 0; i < 5; i++) text(x, "game a b 1");
+        due("nine games", x.between(0, 1), 5 + 16 + 32 + 64 + 128 + 256);
+        x.back();
+        due("those are gone", x.between(0, 1), 5);
     }
 
     private static void promise11() {
