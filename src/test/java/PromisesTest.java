@@ -476,6 +476,10 @@ public final class PromisesTest {
         due("what -1", x.needs(0, -1), -2);
         due("none such", x.needs(3, 0), -2);
         due("none such", x.needs(-1, 0), -2);
+        StillInIt nine = group("team a; team b; start b 9");
+        for (int i = 0; i < 9; i++) text(nine, i % 2 == 0 ? "game a b 1" : "game b a 2");
+        due("all nine", nine.needs(0, 0), 9);
+        due("all nine", nine.needs(0, 1), 511);
         // A lost game's points go to who won it: a may lose to c, but not to b.
         StillInIt y = group("team a; team b; team c; start a 1; start b 2; game a b 1; game a c 2");
         due("which one", y.needs(0, 1), 1);
