@@ -638,8 +638,8 @@ public final class PromisesTest {
 
     private static void promise23() {
         promise = 23;
-        StillInIt x = group("team a; team b; team c; game a b 1; game b c 2; game c a 3");
         for (int s = 0; s < 3; s++) {
+            StillInIt x = group("team a; team b; team c; game a b 1; game b c 2; game c a 3");
             x.system(s);
             for (int m = 1; m <= 20; m++) {
                 int good = 0;
