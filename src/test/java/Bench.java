@@ -26,12 +26,12 @@ final class Bench {
 
     // ---- the document
 
-    /** Its parts: the terms, then each promise. */
+    /** Its parts: the terms and what stands ahead of them, then each promise. */
     private static String[] sections() {
         String[] parts = new String[PROMISES + 1];
         try {
             String all = Files.readString(DOCUMENT).replaceAll("\\s+", " ");
-            parts[TERMS] = between(all, "## Terms", "## Promise 1:");
+            parts[TERMS] = between(all, "## What it is", "## Promise 1:");
             for (int p = 1; p <= PROMISES; p++) {
                 parts[p] = between(all, "## Promise " + p + ":", p < PROMISES ? "## Promise " + (p + 1) + ":" : "## Not promised");
             }

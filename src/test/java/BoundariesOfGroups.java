@@ -7,6 +7,7 @@ final class BoundariesOfGroups {
 
     static void tryAll() {
         newObject();
+        calls512();
         teamNumbers();
         gameNumbers();
         startsAndDays();
@@ -47,6 +48,21 @@ final class BoundariesOfGroups {
         StillInIt second = new StillInIt();
         Bench.says(1, "No TEAMS.");
         Bench.due("another object has its own", second.count(0) * 10 + first.count(0), 3);
+    }
+
+    private static void calls512() {
+        Bench.says(Bench.TERMS, "An object is used for at most 512 calls after it has been made");
+        StillInIt x = new StillInIt();
+        for (int call = 1; call <= 511; call++) x.feed(1, 97, 0, 0, 0, 0);
+        Bench.due("call 512", x.count(3), 40);
+        // Less than 180 calls have made this one.
+        StillInIt y = Bench.full();
+        for (int call = 181; call + 3 <= 512; call += 4) {
+            Bench.due("play", y.play(8, call % 3), 1);
+            Bench.due("image", y.image(), 9);
+            Bench.due("unplay", y.unplay(8), call % 3);
+            Bench.due("isIn", y.isIn(0), 1);
+        }
     }
 
     /** What each call that takes a TEAM answers for one, when there are as many. */
@@ -196,6 +212,18 @@ final class BoundariesOfGroups {
         }
         Bench.due("the least", new StillInIt().system(Bench.LEAST), Bench.BAD);
         Bench.due("the most", new StillInIt().system(Bench.MOST), Bench.BAD);
+        Bench.says(Bench.TERMS, "0 WINS 1 and 0; 1 SHARES under WINS: WON twice as much, DRAWN 1 more; "
+            + "2 THREES under SHARES: WON 1 more than SHARES, DRAWN as SHARES.");
+        int[] won = {1, 2, 3};
+        int[] drawn = {0, 1, 1};
+        for (int k = 0; k <= 2; k++) {
+            StillInIt x = Bench.group(k, "team a; team b; game a b 1; game a b 2; game a b 3; won a b");
+            Bench.due("WON", x.told(0, 1), won[k]);
+            x.play(1, 0);
+            x.play(2, 0);
+            Bench.due("WON and two DRAWN", x.told(0, 1), won[k] + 2 * drawn[k]);
+            Bench.due("two DRAWN", x.told(1, 1), 2 * drawn[k]);
+        }
         Bench.says(Bench.TERMS, "SYSTEMS (0 at first)");
         Bench.due("0 at first", new StillInIt().count(4), 0);
         Bench.due("0 at first", new StillInIt().system(2), 0);

@@ -137,6 +137,10 @@ final class BoundariesOfRuns {
         Bench.text(y, "game d b 2");
         Bench.due("who brings 1", y.set(0, 0), 2 + 8);
         Bench.due("by 2", y.set(0, 1), 2);
+        Bench.says(Bench.TERMS, "SET of t: the TEAMS of which that is greatest");
+        StillInIt last = Bench.group("team a; team b; team c; team d; game a b 1");
+        Bench.due("two, though one alone is level", last.set(3, 0), 3);
+        Bench.due("by 1", last.set(3, 1), 1);
         Bench.says(Bench.TERMS, "less REACH of t times how many they are");
         Bench.text(y, "game a d 3");
         Bench.due("own GAMES count to REACH alone", y.set(0, 0), 0);
@@ -312,6 +316,11 @@ final class BoundariesOfRuns {
         y.play(1, 1);
         Bench.due("LEFT ones of earlier DAYS stay LEFT", y.since(1, 0), Bench.NONE);
         Bench.due("level at last", y.since(0, 1), 30);
+        // By WINS a GAME LEFT gives 1, one that was drawn gives nothing: who is OUT as of 0 can be IN as of a later DAY.
+        StillInIt z = Bench.group("team a; team b; team c; game b c 30; drew b c");
+        Bench.due("IN now", z.isIn(0), 1);
+        Bench.due("the first DAY as of which it is OUT", z.since(0, 0), 0);
+        Bench.due("the first DAY as of which it is SURE", z.since(0, 1), 30);
     }
 
     private static void sinceNone() {
@@ -380,6 +389,12 @@ final class BoundariesOfRuns {
         Bench.due("nine, one too many by SHARES", nine(1, 8).without(4), 7);
         Bench.due("no GAMES", Bench.teams(2).without(0), Bench.BAD);
         Bench.due("no TEAMS", new StillInIt().without(0), Bench.BAD);
+        // Those behind the one that is thought away stay as they are: their TEAMS, and what was PLAYED.
+        StillInIt z = Bench.group("team a; team b; team c; game a b 1; game a c 2; game b c 3; won c a; drew b c");
+        Bench.due("by one won", z.all(), 7);
+        Bench.due("without the first", z.without(0), 4);
+        Bench.due("without the won one", z.without(1), 3);
+        Bench.due("without the drawn one", z.without(2), 7);
         // The ninth is PLAYED, and counts when another one is thought away.
         StillInIt y = nine(0, 4);
         for (int k = 0; k < 9; k++) y.play(k, 1);

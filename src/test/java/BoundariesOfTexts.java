@@ -235,6 +235,11 @@ final class BoundariesOfTexts {
             Bench.due("drew " + w, Bench.text(x, "drew a " + w), -107);
             Bench.due(w + " more", Bench.text(x, w + "s a b 1"), -100);
             Bench.due(w + " less", Bench.text(x, w.substring(1) + " a b 1"), -100);
+            for (int i = 0; i < w.length(); i++) {
+                String near = w.substring(0, i) + "x" + w.substring(i + 1);
+                Bench.due(near, Bench.text(x, near + " a b 1"), -100);
+                Bench.due("a team " + near, Bench.text(new StillInIt(), "team " + near), 0);
+            }
             StillInIt y = new StillInIt();
             Bench.due("team of one letter more", Bench.text(y, "team " + w + "s"), 0);
             Bench.due("team of one letter less", Bench.text(y, "team " + w.substring(1)), 1);
