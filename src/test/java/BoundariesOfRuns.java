@@ -515,9 +515,8 @@ final class BoundariesOfRuns {
         for (int system = 0; system <= 2; system++) {
             for (int seed : new int[] {Bench.MOST, Bench.MOST - 18, Bench.MOST - 19, -10, Bench.LEAST}) {
                 for (int m = 1; m <= 20; m++) {
-                    StillInIt x = fullBy(system);
                     int good = 0;
-                    for (int i = 0; i < m; i++) good += firstBySeed(x, (long) seed + i) & 1;
+                    for (int i = 0; i < m; i++) good += firstBySeed(fullBy(system), (long) seed + i) & 1;
                     StillInIt y = fullBy(system);
                     int common = BigInteger.valueOf(good).gcd(BigInteger.valueOf(m)).intValue();
                     Bench.due("above, seed " + seed + ", m " + m, y.chance(0, seed, m, 0), good / common);
