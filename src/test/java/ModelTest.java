@@ -13,7 +13,7 @@ public final class ModelTest {
     private static final int RUNS = 300, CALLS = 512;
     private static final int[] EDGES = {Integer.MIN_VALUE, Integer.MIN_VALUE + 1, -40, -15, -3, -2, -1, 10, 16, 20, 21, 30, 31, 40,
         41, 255, 256, 257, 1 << 30, Integer.MAX_VALUE - 2, Integer.MAX_VALUE};
-    private static final String[] NAMES = {"a", "ab", "b", "zz", "cdefgh", "wons", "tea", "starts", "qqqqqqq", "won"};
+    private static final String[] NAMES = {"a", "ab", "b", "zz", "cdefgh", "wonson", "tea", "starts", "qqqqqqq", "won"};
     private static final String SIGNS = " \nabwz0139!{`/:\u00ff";
     // How often a call comes beside the others; 1, if it isn't named.
     private static final Map<String, Integer> OFTEN = Map.of("play", 3, "unplay", 2, "put", 6, "load", 4, "run", 4, "help", 3,
@@ -137,7 +137,7 @@ public final class ModelTest {
 
     private int number() {
         if (any(20) == 0) return EDGES[any(EDGES.length)];
-        return any(any(2) == 0 ? 2 : any(2) == 0 ? 4 : 9);
+        return any(any(2) == 0 ? 2 : any(2) == 0 ? 4 : 10);
     }
 
     private int team() {
@@ -162,10 +162,11 @@ public final class ModelTest {
         if (name.equals("film")) a[1] = any(3) == 0 ? Integer.MAX_VALUE - any(3) : any(1 << 30) * 7;
         if (name.equals("chance") && plain) a[1] = any(3) == 0 ? Integer.MAX_VALUE - any(9) : any(1 << 30) * 3;
         if (name.equals("chance") && plain) a[2] = any(22);
-        if (name.equals("sheet") && plain) a[2] = any(any(2) == 0 ? 7 : 42);
-        if (name.equals("put") && plain) a[1] = any(30);
+        if (name.equals("sheet") && plain) a[2] = any(any(2) == 0 ? 4 : 42);
+        if (name.equals("put") && plain) a[1] = any(any(2) == 0 ? 3 : 30);
+        if (name.equals("put") && any(4) == 0) a[2] = -1 - any(300);
         if (name.equals("load") && plain) a[2] = 3 * any(4);
-        if (name.equals("load") && plain) a[3] = any(3);
+        if (name.equals("load") && plain) a[3] = any(6) == 0 ? 8 + any(3) : any(3);
         return a;
     }
 
